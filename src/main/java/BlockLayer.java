@@ -25,7 +25,6 @@ public final class BlockLayer {
     private static final int UPWARD_BUT_OLD_FIRST = 4;
 
     private final Copies buffers;
-    private final Queue queue;
     private final Disk disk;
     private int nextNumber;
     private int hits;
@@ -35,8 +34,7 @@ public final class BlockLayer {
 
     public BlockLayer() {
         buffers = new Copies();
-        queue = new Queue();
-        disk = new Disk(queue);
+        disk = new Disk();
     }
 
     public int load(int block) throws IndexOutOfBoundsException, UnsupportedOperationException {
@@ -45,7 +43,12 @@ public final class BlockLayer {
         Copy buffer = buffers.copyOf(block);
         if (buffer == null) {
             misses++;
-            buffer = readBuffer(block);
+            makeBufferRoom();
+            Request read = makeRequest(READ, block, 0);
+            for (int i = 0; i <= MOST_QUEUED && !read.ended; i++) {
+                disk.passToNextEnd();
+            }
+            buffer = new Copy(block, read.value);
         } else {
             hits++;
         }
@@ -118,7 +121,7 @@ public final class BlockLayer {
             }
         }
         buffers.clear();
-        queue.clear();
+        disk.queue.clear();
         disk.loseAllButMedia();
         return lost;
     }
@@ -148,7 +151,7 @@ public final class BlockLayer {
     }
 
     public int queued(int i) {
-        Request waiting = queue.at(i);
+        Request waiting = disk.queue.at(i);
         return waiting == null ? NONE : waiting.number;
     }
 
@@ -171,7 +174,7 @@ public final class BlockLayer {
             case 0: return disk.time;
             case 1: return disk.head;
             case 2: return disk.serving == null ? NONE : disk.serving.number;
-            case 3: return queue.size();
+            case 3: return disk.queue.size();
             case 4: return disk.cache.size();
             case 5: return buffers.size();
             case 6: return hits;
@@ -191,18 +194,9 @@ public final class BlockLayer {
     }
 
     private void requireQueueRoom(int more) {
-        if (queue.size() + more > MOST_QUEUED) {
+        if (disk.queue.size() + more > MOST_QUEUED) {
             throw new UnsupportedOperationException("the queue might have more than 40 requests");
         }
-    }
-
-    private Copy readBuffer(int block) {
-        makeBufferRoom();
-        Request read = makeRequest(READ, block, 0);
-        for (int i = 0; i <= MOST_QUEUED && !read.ended; i++) {
-            disk.passToNextEnd();
-        }
-        return new Copy(block, read.value);
     }
 
     private void makeBufferRoom() {
@@ -220,7 +214,7 @@ public final class BlockLayer {
     }
 
     private void writeBack(Copy buffer) {
-        Request absorber = queue.absorberOf(buffer.block);
+        Request absorber = disk.queue.absorberOf(buffer.block);
         if (absorber == null) {
             makeRequest(WRITE, buffer.block, buffer.value);
         } else {
@@ -232,7 +226,7 @@ public final class BlockLayer {
     private Request makeRequest(int kind, int block, int value) {
         Request made = new Request(nextNumber, kind, block, value, disk.time);
         nextNumber++;
-        queue.add(made);
+        disk.queue.add(made);
         return made;
     }
 
@@ -241,7 +235,7 @@ public final class BlockLayer {
         if (serving != null && serving.number == number) {
             return serving;
         }
-        return queue.ofNumber(number);
+        return disk.queue.ofNumber(number);
     }
 
     private int newestOf(int block) {
@@ -250,7 +244,7 @@ public final class BlockLayer {
             return buffer.value;
         }
         // A READ would wait behind every request of its block, so the last WRITE is what it would find.
-        Request write = queue.lastWriteOf(block);
+        Request write = disk.queue.lastWriteOf(block);
         return write == null ? disk.valueAfterServing(block) : write.value;
     }
 
@@ -283,13 +277,21 @@ public final class BlockLayer {
         }
 
         Copy copyOf(int block) {
-            return at(placeOf(block));
+            for (int i = 0; i < inOrder.size(); i++) {
+                if (inOrder.get(i).block == block) {
+                    return inOrder.get(i);
+                }
+            }
+            return null;
         }
 
+        /** In place of what was there of its block. */
         void putLast(Copy copy) {
-            int place = placeOf(copy.block);
-            if (place != NONE) {
-                inOrder.remove(place);
+            for (int i = 0; i < inOrder.size(); i++) {
+                if (inOrder.get(i).block == copy.block) {
+                    inOrder.remove(i);
+                    break;
+                }
             }
             inOrder.add(copy);
         }
@@ -311,15 +313,6 @@ public final class BlockLayer {
 
         void clear() {
             inOrder.clear();
-        }
-
-        private int placeOf(int block) {
-            for (int i = 0; i < inOrder.size(); i++) {
-                if (inOrder.get(i).block == block) {
-                    return i;
-                }
-            }
-            return NONE;
         }
     }
 
@@ -398,10 +391,10 @@ public final class BlockLayer {
         }
 
         boolean isReady(int place) {
-            Request request = at(place);
-            if (request == null) {
+            if (place < 0 || place >= waiting.size()) {
                 return false;
             }
+            Request request = waiting.get(place);
             if (request.kind == BARRIER) {
                 return place == 0;
             }
@@ -415,14 +408,14 @@ public final class BlockLayer {
         }
     }
 
-    /** The disk with its head, cache and media; time is here, for nothing else uses it up. */
+    /** The disk with the queue before it, its head, cache and media; time is here, for nothing else uses it up. */
     private static final class Disk {
         private static final int EITHER_WAY = 0;
         private static final int ABOVE = 1;
         private static final int BELOW = 2;
         private static final int FROM_LOWEST = 3;
 
-        private final Queue queue;
+        final Queue queue = new Queue();
         private final int[] onMedia = new int[BLOCKS];
         final Copies cache = new Copies();
         /** Null while the disk is idle. */
@@ -434,10 +427,6 @@ public final class BlockLayer {
         int way = UPWARD;
         int served;
         int idleUnits;
-
-        Disk(Queue queue) {
-            this.queue = queue;
-        }
 
         boolean hasWork() {
             return serving != null || queue.size() > 0;
@@ -543,31 +532,30 @@ public final class BlockLayer {
             if (first == null) {
                 return NONE;
             }
-            // Whatever stands first is ready and has the least number.
-            if (first.kind == BARRIER || way == LEAST_NUMBER) {
+            // What stands first is always ready and has the least number; behind a barrier nothing is ready.
+            if (first.kind == BARRIER || way == LEAST_NUMBER || isOldUnderPolicy(first)) {
                 return 0;
             }
-            if (way == UPWARD_BUT_OLD_FIRST && time - first.made >= OLD_AGE) {
-                return 0;
+            int place = nearestPlace(sideOfPolicy());
+            if (place != NONE) {
+                return place;
             }
-            if (way == NEAREST) {
-                return nearestPlace(EITHER_WAY);
-            }
-            return way == UP_AND_DOWN ? placeUpAndDown() : placeUpward();
-        }
-
-        private int placeUpAndDown() {
-            int place = nearestPlace(goesUp ? ABOVE : BELOW);
-            if (place == NONE) {
+            if (way == UP_AND_DOWN) {
                 goesUp = !goesUp;
-                place = nearestPlace(goesUp ? ABOVE : BELOW);
+                return nearestPlace(sideOfPolicy());
             }
-            return place;
+            return nearestPlace(FROM_LOWEST);
         }
 
-        private int placeUpward() {
-            int place = nearestPlace(ABOVE);
-            return place == NONE ? nearestPlace(FROM_LOWEST) : place;
+        private boolean isOldUnderPolicy(Request request) {
+            return way == UPWARD_BUT_OLD_FIRST && time - request.made >= OLD_AGE;
+        }
+
+        private int sideOfPolicy() {
+            if (way == NEAREST) {
+                return EITHER_WAY;
+            }
+            return way == UP_AND_DOWN && !goesUp ? BELOW : ABOVE;
         }
 
         private int nearestPlace(int side) {

@@ -12,6 +12,7 @@ final class PolicyTest {
         aboveIsTheHeadsToo();
         oldOnes();
         barriersHoldUnderEachPolicy();
+        barriersDoNotTurnTheHead();
         checks.finish();
     }
 
@@ -163,5 +164,15 @@ final class PolicyTest {
             x.step(1);
             checks.due("policy " + p + ": then the WRITE behind it", 2, x.told(2));
         }
+    }
+
+    private static void barriersDoNotTurnTheHead() {
+        BlockLayer x = new BlockLayer();
+        x.policy(2);
+        x.load(80);
+        x.sync();
+        x.drain();
+        waitingAtTracks11And3(x);
+        checks.due("it still goes up", 11, headAfterOneUnit(x));
     }
 }
