@@ -6,8 +6,16 @@ final class CrashTest {
         countsWhatIsLost();
         sameValueIsNoLoss();
         theNewestOfManyCountsOnce();
+        whileIdle();
+        whileIdleWithWaiting();
+        rightAfterALoad();
         whileAWriteIsServed();
         whileABarrierIsServed();
+        whileABarrierIsAboutToEnd();
+        rightAfterABarrier();
+        if (Reads.canBeMade()) {
+            whileAReadIsServed();
+        }
         whatStays();
         numbersGoOn();
         checks.finish();
@@ -70,6 +78,83 @@ final class CrashTest {
         checks.due("crash() with 5 in the queue, 0 newest", 0, y.crash());
     }
 
+    /** Nothing that was begun before the crash has any effect on this READ of block 0. */
+    private static void nextLoadIsAsTheFirst(BlockLayer x) {
+        int time = x.told(0);
+        int served = x.told(10);
+        checks.due("idle", -1, x.told(2));
+        checks.due("the head", 0, x.told(1));
+        checks.due("load(0)", x.media(0), x.load(0));
+        checks.due("its units", 2, x.told(0) - time);
+        checks.due("it alone was served", 1, x.told(10) - served);
+    }
+
+    private static void whileIdle() {
+        BlockLayer x = Layers.withWrites(80);
+        x.drain();
+        checks.due("idle", -1, x.told(2));
+        checks.due("one in the cache, ten buffers", 11, x.crash());
+        checks.due("cache", 0, x.told(4));
+        checks.due("newest(80)", 0, x.newest(80));
+        nextLoadIsAsTheFirst(x);
+    }
+
+    private static void whileIdleWithWaiting() {
+        BlockLayer x = Layers.withWrites(80, 255);
+        checks.due("idle before time goes on", -1, x.told(2));
+        checks.due("two in the queue, ten buffers", 12, x.crash());
+        checks.due("queue", 0, x.told(3));
+        checks.due("drain()", 0, x.drain());
+        nextLoadIsAsTheFirst(x);
+    }
+
+    /** The face never leaves a READ at the disk: load() has just ended, and so has its READ. */
+    private static void rightAfterALoad() {
+        BlockLayer x = new BlockLayer();
+        x.load(80);
+        checks.due("idle", -1, x.told(2));
+        checks.due("crash()", 0, x.crash());
+        checks.due("buffer(80)", 0, x.buffer(80));
+        nextLoadIsAsTheFirst(x);
+    }
+
+    private static void whileAReadIsServed() {
+        BlockLayer x = new BlockLayer();
+        Layers.saveAll(x, 80);
+        x.sync();
+        x.drain();
+        x.save(81, 5);
+        Reads.make(x, 82);
+        x.step(1);
+        checks.due("the READ is served", 0, x.request(x.told(2), 0));
+        checks.due("the buffer alone is lost", 1, x.crash());
+        checks.due("media(80)", 1080, x.media(80));
+        nextLoadIsAsTheFirst(x);
+    }
+
+    private static void whileABarrierIsAboutToEnd() {
+        BlockLayer x = new BlockLayer();
+        Layers.saveAll(x, 0, 1);
+        x.sync();
+        x.step(6);
+        checks.due("the barrier has one unit to go", 2, x.told(2));
+        checks.due("crash()", 2, x.crash());
+        checks.due("media(0)", 0, x.media(0));
+        checks.due("cache", 0, x.told(4));
+        nextLoadIsAsTheFirst(x);
+    }
+
+    private static void rightAfterABarrier() {
+        BlockLayer x = new BlockLayer();
+        Layers.saveAll(x, 0, 1);
+        x.sync();
+        x.step(7);
+        checks.due("the barrier has ended", -1, x.told(2));
+        checks.due("crash()", 0, x.crash());
+        checks.due("media(0)", 1000, x.media(0));
+        nextLoadIsAsTheFirst(x);
+    }
+
     private static void whileAWriteIsServed() {
         BlockLayer x = Layers.withWrites(255);
         x.step(32);
@@ -91,11 +176,12 @@ final class CrashTest {
         BlockLayer x = new BlockLayer();
         Layers.saveAll(x, 0, 1);
         x.sync();
-        x.step(6);
+        x.step(5);
         checks.due("the barrier is served", 2, x.told(2));
         checks.due("crash()", 2, x.crash());
         checks.due("newest(0)", 0, x.newest(0));
         checks.due("drain()", 0, x.drain());
+        nextLoadIsAsTheFirst(x);
     }
 
     private static void whatStays() {
