@@ -1,12 +1,13 @@
 import java.util.Random;
 
-/** Random runs, the same in every session, each of 512 calls at most, compared with PlainModel. */
+/** Random runs, always the same ones, each of 512 calls, compared with PlainModel answer by answer. */
 final class ModelTest {
     private static final Checks checks = new Checks();
     private static final int RUNS = 1500;
     private static final int CALLS = 512;
 
     /** How often each thing that the runs must reach was reached. */
+    private static int compared;
     private static int refusedByQueue;
     private static int absorbed;
     private static int fullCaches;
@@ -17,6 +18,7 @@ final class ModelTest {
         for (int run = 0; run < RUNS; run++) {
             oneRun(run);
         }
+        checks.due("calls of all runs", RUNS * CALLS, compared);
         reached("refusals by the queue", refusedByQueue);
         reached("absorbed requests", absorbed);
         reached("full caches", fullCaches);
@@ -58,30 +60,24 @@ final class ModelTest {
         if (kind < 30) {
             int v = random.nextInt(4);
             same(at + " save(" + block + ", " + v + ")", () -> x.save(block, v), () -> model.save(block, v));
-        } else if (kind < 37) {
-            if (random.nextInt(12) >= haste) {
-                same(at + " load(" + block + ")", () -> x.load(block), () -> model.load(block));
-            }
-        } else if (kind < 41) {
+        } else if (kind < 37 && random.nextInt(12) >= haste) {
+            same(at + " load(" + block + ")", () -> x.load(block), () -> model.load(block));
+        } else if (kind >= 37 && kind < 41) {
             same(at + " sync()", x::sync, model::sync);
-        } else if (kind < 53) {
+        } else if (kind >= 41 && kind < 53) {
             int n = random.nextInt(20) == 0 ? random.nextInt(1100) - 50 : 1 + random.nextInt(13 - haste);
             int before = model.told(10);
             same(at + " step(" + n + ")", () -> x.step(n), () -> model.step(n));
             servedUnder[policyOf(model)] += model.told(10) - before;
             fullCaches += model.told(4) == 6 ? 1 : 0;
-        } else if (kind < 54) {
-            if (random.nextInt(12) >= haste) {
-                same(at + " drain()", x::drain, model::drain);
-            }
-        } else if (kind < 57) {
+        } else if (kind == 53 && random.nextInt(12) >= haste) {
+            same(at + " drain()", x::drain, model::drain);
+        } else if (kind >= 54 && kind < 57) {
             int p = random.nextInt(7) - 1;
             same(at + " policy(" + p + ")", () -> x.policy(p), () -> model.policy(p));
-        } else if (kind < 58) {
-            if (random.nextInt(6) == 0) {
-                String lost = same(at + " crash()", x::crash, model::crash);
-                lossyCrashes += lost.equals("0") ? 0 : 1;
-            }
+        } else if (kind == 57 && random.nextInt(6) == 0) {
+            String lost = same(at + " crash()", x::crash, model::crash);
+            lossyCrashes += lost.equals("0") ? 0 : 1;
         } else {
             oneLook(at, random, x, model, block, small);
         }
@@ -125,6 +121,7 @@ final class ModelTest {
 
     private static String same(String what, Checks.Call call, Checks.Call due) {
         String answer = Checks.answerOf(due);
+        compared++;
         checks.due(what, answer, Checks.answerOf(call));
         if (answer.equals("throws.UnsupportedOperationException")) {
             refusedByQueue++;

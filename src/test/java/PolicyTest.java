@@ -13,6 +13,8 @@ final class PolicyTest {
         oldOnes();
         barriersHoldUnderEachPolicy();
         barriersDoNotTurnTheHead();
+        changeWhileServing();
+        changeAtTheSameTime();
         checks.finish();
     }
 
@@ -174,5 +176,34 @@ final class PolicyTest {
         x.drain();
         waitingAtTracks11And3(x);
         checks.due("it still goes up", 11, headAfterOneUnit(x));
+    }
+
+    /** Another policy is asked when the disk chooses next: what it serves goes on to its end. */
+    private static void changeWhileServing() {
+        // From track 10: request 1 at track 14, 2 at track 6, 3 at track 9.
+        BlockLayer x = fromTheMiddle(112, 48, 72);
+        x.policy(0);
+        x.step(1);
+        checks.due("policy 0 serves", 1, x.told(2));
+        checks.due("policy(1)", 0, x.policy(1));
+        checks.due("it goes on", 1, x.told(2));
+        checks.due("the queue is as before", "2 3", Layers.queuedNumbers(x));
+        checks.due("the head is as before", 14, x.told(1));
+        x.step(5);
+        checks.due("it ends with its 6th unit", -1, x.told(2));
+        x.step(1);
+        checks.due("policy 1 serves then, not policy 0", 3, x.told(2));
+    }
+
+    /** Without time nothing is chosen, so the last policy before time goes on is the one that counts. */
+    private static void changeAtTheSameTime() {
+        BlockLayer x = fromTheMiddle(112, 48, 72);
+        x.policy(0);
+        x.policy(1);
+        x.policy(2);
+        x.policy(1);
+        checks.due("idle", -1, x.told(2));
+        x.step(1);
+        checks.due("policy 1 serves", 3, x.told(2));
     }
 }

@@ -8,6 +8,7 @@ final class RequestTest {
         waitingAndServed();
         barriers();
         whenMade();
+        whenMadeByEviction();
         wrongNumbers();
         checks.finish();
     }
@@ -73,6 +74,19 @@ final class RequestTest {
         checks.due("request(0, 3)", 17, x.request(0, 3));
         checks.due("request(1, 3)", 17, x.request(1, 3));
         checks.due("request(2, 3)", 22, x.request(2, 3));
+    }
+
+    /** The WRITE and the READ are made before the time goes on that the load takes. */
+    private static void whenMadeByEviction() {
+        BlockLayer x = new BlockLayer();
+        Layers.saveAll(x, 255, 1, 2, 3, 4, 5, 6, 7, 8, 9);
+        x.step(17);
+        x.load(0);
+        checks.due("the time after the load", 19, x.told(0));
+        checks.due("the WRITE waits", "0", Layers.queuedNumbers(x));
+        checks.due("when it was made by load", 17, x.request(0, 3));
+        x.save(16, 1);
+        checks.due("when one was made by save", 19, x.request(2, 3));
     }
 
     private static void wrongNumbers() {
