@@ -49,22 +49,25 @@ final class LanguageTest {
         return code.replaceAll("//[^\n]*", "").replaceAll("(?s)/\\*.*?\\*/", "");
     }
 
-    /** A method of the class begins at 4 spaces, one of a class inside at 8; a closing brace there ends it. */
+    /** A method of the class begins and ends at 4 spaces, one of a class inside at 8. */
     private static void methodsAreShort(String code) {
-        String[] lines = code.split("\n");
+        String indent = "    ";
         int begun = 0;
         int methods = 0;
+        String[] lines = code.split("\n");
         for (int i = 0; i < lines.length; i++) {
-            boolean begins = lines[i].matches("( {4}| {8})[a-zA-Z][^=;]*\\([^;]*\\{");
-            if (begins) {
+            if (lines[i].matches(" {4}[a-z ]*\\bclass\\b.*\\{")) {
+                indent = "        ";
+            } else if (lines[i].matches(indent + "[a-zA-Z].*\\).*\\{")) {
                 begun = i;
+            } else if (lines[i].equals(indent + "}")) {
                 methods++;
-            } else if (lines[i].matches("( {4}| {8})\\}") && begun > 0) {
-                checks.due("lines from " + lines[begun].trim(), 1, i - begun < MOST_LINES ? 1 : 0);
-                begun = 0;
+                checks.due("few lines from " + lines[begun].trim(), 1, i - begun < MOST_LINES ? 1 : 0);
+            } else if (lines[i].equals("    }")) {
+                indent = "    ";
             }
         }
-        checks.due("methods were found", 1, methods >= 14 ? 1 : 0);
+        checks.due("methods were found", 1, methods >= 40 ? 1 : 0);
     }
 
     private static int filesOfTheClass() throws IOException {

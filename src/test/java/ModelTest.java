@@ -1,4 +1,6 @@
+import java.util.Map;
 import java.util.Random;
+import java.util.TreeMap;
 
 /** Random runs, always the same ones, each of 512 calls, compared with PlainModel answer by answer. */
 final class ModelTest {
@@ -13,12 +15,17 @@ final class ModelTest {
     private static int fullCaches;
     private static int lossyCrashes;
     private static final int[] servedUnder = new int[5];
+    private static final Map<String, Integer> callsOf = new TreeMap<>();
 
     public static void main(String[] args) {
         for (int run = 0; run < RUNS; run++) {
             oneRun(run);
         }
         checks.due("calls of all runs", RUNS * CALLS, compared);
+        checks.due("methods that were called",
+            "[buffer, crash, drain, load, media, newest, policy, queued, request, save, step, sync, told, used]",
+            callsOf.keySet().toString());
+        callsOf.forEach((method, times) -> reached("calls of " + method, times));
         reached("refusals by the queue", refusedByQueue);
         reached("absorbed requests", absorbed);
         reached("full caches", fullCaches);
@@ -119,9 +126,15 @@ final class ModelTest {
         }
     }
 
+    private static String methodOf(String what) {
+        int end = what.indexOf('(');
+        return what.substring(what.lastIndexOf(' ', end) + 1, end);
+    }
+
     private static String same(String what, Checks.Call call, Checks.Call due) {
         String answer = Checks.answerOf(due);
         compared++;
+        callsOf.merge(methodOf(what), 1, Integer::sum);
         checks.due(what, answer, Checks.answerOf(call));
         if (answer.equals("throws.UnsupportedOperationException")) {
             refusedByQueue++;
